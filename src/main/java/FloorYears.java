@@ -160,7 +160,7 @@ public final class FloorYears {
             case 3:
                 return bit(isSo(now.state, f));
             case 4:
-                return bit(now.willBeSo(f, now.state));
+                return now.soAfter(f, now.state);
             default:
                 return BAD;
         }
@@ -836,27 +836,28 @@ public final class FloorYears {
             return sum;
         }
 
-        boolean willBeSo(int f, int at) {
-            boolean firstWas = isSo(at, first[f]);
-            boolean secondWas = isSo(at, second[f]);
+        /** Whether a THING is SO the year behind a STATE (1, 0), by its law. */
+        int soAfter(int f, int at) {
+            int firstWas = at >> first[f] & 1;
+            int secondWas = at >> second[f] & 1;
             switch (kind[f]) {
                 case ECHO:
                     return firstWas;
                 case CONTRARY:
-                    return !firstWas;
+                    return 1 - firstWas;
                 case JEALOUS:
-                    return firstWas && !secondWas;
+                    return firstWas & (1 - secondWas);
                 case EASY:
-                    return firstWas || secondWas;
+                    return firstWas | secondWas;
                 default:
-                    return isSo(at, f);
+                    return at >> f & 1;
             }
         }
 
         int afterYear(int at) {
             int then = 0;
             for (int f = 0; f < things; f++) {
-                then |= bit(willBeSo(f, at)) << f;
+                then |= soAfter(f, at) << f;
             }
             return then;
         }

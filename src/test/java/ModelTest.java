@@ -2,7 +2,7 @@ import java.util.Random;
 
 /** The program beside the model: the same calls, drawn by fixed seeds, must answer alike. */
 public final class ModelTest {
-    private static final int RUNS = 600;
+    private static final int RUNS = 1000;
     private static final int CALLS = 250;
     private static final int[] EDGES = {Integer.MIN_VALUE, -21, -11, -4, -2, -1, 0, 1, 2, 3, 4, 5, 6, 7,
         9, 10, 11, 13, 14, 15, 20, 21, 31, 32, 39, 40, 41, 59, 60, 61, 63, 64, 99, 100, 127, 128, 160,
@@ -13,6 +13,7 @@ public final class ModelTest {
     private final Random random;
     private final FloorYears x = new FloorYears();
     private final Model m = new Model();
+    private final int[] lanes = new int[4];
     private int things;
 
     private ModelTest(int seed) {
@@ -24,6 +25,7 @@ public final class ModelTest {
         for (int seed = 1; seed <= RUNS; seed++) {
             ModelTest t = new ModelTest(seed);
             t.due.about("seed " + seed);
+            t.tell();
             for (int i = 0; i < CALLS; i++) {
                 t.step();
             }
@@ -79,7 +81,7 @@ public final class ModelTest {
 
     private String aText() {
         StringBuilder b = new StringBuilder();
-        int many = random.nextInt(15) == 0 ? 7 : upTo(6);
+        int many = random.nextInt(15) == 0 ? 7 : Math.max(upTo(6), upTo(6));
         int most = random.nextInt(25) == 0 ? 6 : Math.max(0, many - 1);
         for (int i = 0; i < many; i++) {
             int kind = upTo(4);
@@ -204,6 +206,9 @@ public final class ModelTest {
         int n = random.nextInt(3) == 0 ? near(99) : near(4);
         switch (random.nextInt(9)) {
             case 0:
+                for (int i = random.nextInt(10) == 0 ? 11 : 0; i > 0; i--) {
+                    same("go(99)", x.go(99), m.go(99));
+                }
                 same("go(" + n + ")", x.go(n), m.go(n));
                 break;
             case 1:
@@ -304,12 +309,15 @@ public final class ModelTest {
 
     private void sheetOne() {
         int k = near(random.nextInt(3) == 0 ? 3 : 1);
-        int lane = near(2);
+        int lane = random.nextBoolean() && k >= 0 && k < 4 ? lanes[k] : near(2);
         switch (random.nextInt(7)) {
             case 0: {
                 int n = near(40);
-                same("sheet(" + k + ", " + lane + ", " + n + ")", x.sheet(k, lane, n),
-                    m.sheet(k, lane, n));
+                int made = m.sheet(k, lane, n);
+                same("sheet(" + k + ", " + lane + ", " + n + ")", x.sheet(k, lane, n), made);
+                if (made == 1) {
+                    lanes[k] = lane;
+                }
                 break;
             }
             case 1, 2, 3: {
