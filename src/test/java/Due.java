@@ -21,6 +21,10 @@ final class Due {
         is(what, is ? 1 : 0, 1);
     }
 
+    int asked() {
+        return asked;
+    }
+
     /** Adds what was counted here to another count. */
     void finish(Due into) {
         into.asked += asked;

@@ -1,22 +1,33 @@
+import java.lang.reflect.InvocationTargetException;
+import java.lang.reflect.Method;
+import java.util.Arrays;
+import java.util.HashMap;
+import java.util.Map;
 import java.util.Random;
 
-/** The program beside the model: the same calls, drawn by fixed seeds, must answer alike. */
+/** The program beside the model: the same calls, drawn by fixed seeds, must answer alike, all 512 of them. */
 public final class ModelTest {
-    private static final int RUNS = 1000;
-    private static final int CALLS = 250;
+    private static final int RUNS = 2000;
+    /** "An object is used for at most 512 calls after it has been made": each run is as long as that. */
+    private static final int CALLS = 512;
     private static final int[] EDGES = {Integer.MIN_VALUE, -21, -11, -4, -2, -1, 0, 1, 2, 3, 4, 5, 6, 7,
         9, 10, 11, 13, 14, 15, 20, 21, 31, 32, 39, 40, 41, 59, 60, 61, 63, 64, 99, 100, 127, 128, 160,
         255, 256, 999, 1000, 65535, 65536, Integer.MAX_VALUE};
     private static final String[] KINDS = {"plain", "echo", "contrary", "jealous", "easy"};
+    private static final Map<String, Method> OF_PROGRAM = methods(FloorYears.class);
+    private static final Map<String, Method> OF_MODEL = methods(Model.class);
 
     private final Due due = new Due();
+    private final int seed;
     private final Random random;
     private final FloorYears x = new FloorYears();
     private final Model m = new Model();
     private final int[] lanes = new int[4];
+    private int calls;
     private int things;
 
     private ModelTest(int seed) {
+        this.seed = seed;
         random = new Random(seed);
     }
 
@@ -24,14 +35,49 @@ public final class ModelTest {
         Due all = new Due();
         for (int seed = 1; seed <= RUNS; seed++) {
             ModelTest t = new ModelTest(seed);
-            t.due.about("seed " + seed);
-            t.tell();
-            for (int i = 0; i < CALLS; i++) {
-                t.step();
-            }
+            t.run();
             t.due.finish(all);
         }
+        all.is("calls of all runs", all.asked(), (long) RUNS * CALLS);
         all.finish();
+    }
+
+    private static Map<String, Method> methods(Class<?> of) {
+        Map<String, Method> byName = new HashMap<>();
+        for (Method method : of.getDeclaredMethods()) {
+            byName.put(method.getName(), method);
+        }
+        return byName;
+    }
+
+    private static long answer(Method method, Object on, Object... with) {
+        try {
+            return ((Number) method.invoke(on, with)).longValue();
+        } catch (IllegalAccessException | InvocationTargetException e) {
+            throw new IllegalStateException(method + " of " + Arrays.toString(with), e);
+        }
+    }
+
+    /** Most runs have a text told at once; the others find nothing there for a while. */
+    private void run() {
+        if (random.nextInt(20) != 0) {
+            tell();
+        }
+        while (calls < CALLS) {
+            step();
+        }
+    }
+
+    /** The call on both, unless the object has had all the calls that it is used for; what the model answers. */
+    private long same(String call, Object... with) {
+        if (calls == CALLS) {
+            return Model.BAD;
+        }
+        calls++;
+        long want = answer(OF_MODEL.get(call), m, with);
+        due.about("seed " + seed + ", call " + calls);
+        due.is(call + Arrays.toString(with), answer(OF_PROGRAM.get(call), x, with), want);
+        return want;
     }
 
     private int upTo(int most) {
@@ -55,24 +101,20 @@ public final class ModelTest {
         return near((1 << things) - 1);
     }
 
-    private void same(String call, long got, long want) {
-        due.is(call, got, want);
-    }
-
     private void tell() {
         String t = aText();
         for (int i = 0; i < t.length(); i++) {
             int c = t.charAt(i);
-            same("feed(" + c + ")", x.feed(c), m.feed(c));
+            same("feed", c);
         }
         if (random.nextInt(12) == 0) {
             int n = near(t.length());
-            same("end(" + n + ")", x.end(n), m.end(n));
+            same("end", n);
         }
-        same("text() of '" + t + "'", x.text(), m.text());
-        same("fault()", x.fault(), m.fault());
+        same("text");
+        same("fault");
         things = m.rule(0);
-        lookAtAll();
+        lookAround(4);
     }
 
     private String gap() {
@@ -125,18 +167,25 @@ public final class ModelTest {
         return b.toString();
     }
 
-    private void lookAtAll() {
+    /** One call in so many of those that show what there is, each of them drawn. */
+    private void lookAround(int oneIn) {
         for (int i = -1; i <= 7; i++) {
-            same("rule(" + i + ")", x.rule(i), m.rule(i));
+            sometimes(oneIn, "rule", i);
             for (int w = -1; w <= 5; w++) {
-                same("thing(" + i + ", " + w + ")", x.thing(i, w), m.thing(i, w));
-                same("guest(" + i + ", " + w + ")", x.guest(i, w), m.guest(i, w));
-                same("ban(" + i + ", " + w + ")", x.ban(i, w), m.ban(i, w));
+                sometimes(oneIn, "thing", i, w);
+                sometimes(oneIn, "guest", i, w);
+                sometimes(oneIn, "ban", i, w);
             }
-            same("count(" + i + ")", x.count(i), m.count(i));
+            sometimes(oneIn, "count", i);
         }
-        same("torn()", x.torn(), m.torn());
-        same("fault()", x.fault(), m.fault());
+        sometimes(oneIn, "torn");
+        sometimes(oneIn, "fault");
+    }
+
+    private void sometimes(int oneIn, String call, Object... with) {
+        if (random.nextInt(oneIn) == 0) {
+            same(call, with);
+        }
     }
 
     private void step() {
@@ -157,10 +206,10 @@ public final class ModelTest {
                 sheetOne();
                 break;
             default:
-                if (random.nextInt(6) == 0) {
+                if (random.nextInt(20) == 0) {
                     tell();
                 } else {
-                    lookAtAll();
+                    lookAround(20);
                 }
                 break;
         }
@@ -173,28 +222,27 @@ public final class ModelTest {
         switch (random.nextInt(6)) {
             case 0: {
                 int v = w == 0 ? near(4) : w == 3 ? near(1) : g;
-                same("alter(" + f + ", " + w + ", " + v + ")", x.alter(f, w, v), m.alter(f, w, v));
+                same("alter", f, w, v);
                 break;
             }
             case 1: {
                 int who = near(3);
                 int what = near(1);
                 int v = what == 0 ? f : near(9);
-                same("hire(" + who + ", " + what + ", " + v + ")", x.hire(who, what, v),
-                    m.hire(who, what, v));
+                same("hire", who, what, v);
                 break;
             }
             case 2:
-                same("forbid(" + f + ", " + g + ")", x.forbid(f, g), m.forbid(f, g));
+                same("forbid", f, g);
                 break;
             case 3: {
                 int b = near(3);
-                same("lift(" + b + ")", x.lift(b), m.lift(b));
+                same("lift", b);
                 break;
             }
             default: {
                 int who = near(3);
-                same("undo(" + who + ")", x.undo(who), m.undo(who));
+                same("undo", who);
                 break;
             }
         }
@@ -207,35 +255,35 @@ public final class ModelTest {
         switch (random.nextInt(9)) {
             case 0:
                 for (int i = random.nextInt(10) == 0 ? 11 : 0; i > 0; i--) {
-                    same("go(99)", x.go(99), m.go(99));
+                    same("go", 99);
                 }
-                same("go(" + n + ")", x.go(n), m.go(n));
+                same("go", n);
                 break;
             case 1:
-                same("ahead(" + n + ")", x.ahead(n), m.ahead(n));
+                same("ahead", n);
                 break;
             case 2:
-                same("next(" + s + ")", x.next(s), m.next(s));
+                same("next", s);
                 break;
             case 3:
-                same("ring(" + w + ")", x.ring(w), m.ring(w));
+                same("ring", w);
                 break;
             case 4:
-                same("rings(" + w + ")", x.rings(w), m.rings(w));
+                same("rings", w);
                 break;
             case 5:
-                same("agree(" + w + ")", x.agree(w), m.agree(w));
+                same("agree", w);
                 break;
             case 6: {
                 int what = near(1);
-                same("before(" + s + ", " + what + ")", x.before(s, what), m.before(s, what));
+                same("before", s, what);
                 break;
             }
             case 7:
-                same("gardens()", x.gardens(), m.gardens());
+                same("gardens");
                 break;
             default:
-                same("clash()", x.clash(), m.clash());
+                same("clash");
                 break;
         }
     }
@@ -248,29 +296,29 @@ public final class ModelTest {
             case 0: {
                 int so = near(1);
                 int what = random.nextBoolean() ? w : 10 + near(3);
-                same("way(" + f + ", " + so + ", " + what + ")", x.way(f, so, what), m.way(f, so, what));
+                same("way", f, so, what);
                 break;
             }
             case 1: {
                 int n = near(4);
                 int what = random.nextBoolean() ? near(0) : 10 + near(3);
-                same("peace(" + n + ", " + what + ")", x.peace(n, what), m.peace(n, what));
+                same("peace", n, what);
                 break;
             }
             case 2:
-                same("amend(" + w + ")", x.amend(w), m.amend(w));
+                same("amend", w);
                 break;
             case 3:
-                same("strict(" + w + ")", x.strict(w), m.strict(w));
+                same("strict", w);
                 break;
             case 4:
-                same("luck(" + v + ", " + w + ")", x.luck(v, w), m.luck(v, w));
+                same("luck", v, w);
                 break;
             case 5:
-                same("calm(" + v + ", " + w + ")", x.calm(v, w), m.calm(v, w));
+                same("calm", v, w);
                 break;
             default:
-                same("mean(" + v + ", " + w + ")", x.mean(v, w), m.mean(v, w));
+                same("mean", v, w);
                 break;
         }
     }
@@ -283,25 +331,24 @@ public final class ModelTest {
                 int f = aThing();
                 int n = near(9);
                 boolean is = random.nextBoolean();
-                same("see(" + f + ", " + n + ", " + is + ")", x.see(f, n, is), m.see(f, n, is));
+                same("see", f, n, is);
                 break;
             }
             case 2: {
                 int n = near(6);
-                same("forget(" + n + ")", x.forget(n), m.forget(n));
+                same("forget", n);
                 break;
             }
             case 3:
-                same("fits(" + w + ")", x.fits(w), m.fits(w));
+                same("fits", w);
                 break;
             case 4, 5:
-                same("look(" + b + ")", x.look(b), m.look(b));
+                same("look", b);
                 break;
             default: {
                 int seed = random.nextInt();
                 int n = 1 + near(59);
-                same("drift(" + seed + ", " + n + ", " + b + ")", x.drift(seed, n, b),
-                    m.drift(seed, n, b));
+                same("drift", seed, n, b);
                 break;
             }
         }
@@ -313,9 +360,7 @@ public final class ModelTest {
         switch (random.nextInt(7)) {
             case 0: {
                 int n = near(40);
-                int made = m.sheet(k, lane, n);
-                same("sheet(" + k + ", " + lane + ", " + n + ")", x.sheet(k, lane, n), made);
-                if (made == 1) {
+                if (same("sheet", k, lane, n) == 1) {
                     lanes[k] = lane;
                 }
                 break;
@@ -323,25 +368,24 @@ public final class ModelTest {
             case 1, 2, 3: {
                 int i = near(8);
                 int v = random.nextInt(4) == 0 ? random.nextInt() & ~252 : near(3);
-                same("lay(" + k + ", " + i + ", " + v + ")", x.lay(k, i, v), m.lay(k, i, v));
+                same("lay", k, i, v);
                 break;
             }
             case 4, 5: {
                 int f = near(6);
                 int n = near(random.nextBoolean() ? 3 : 20);
-                same("read(" + k + ", " + lane + ", " + f + ", " + n + ")", x.read(k, lane, f, n),
-                    m.read(k, lane, f, n));
-                same("torn()", x.torn(), m.torn());
-                same("rule(4)", x.rule(4), m.rule(4));
-                same("rule(3)", x.rule(3), m.rule(3));
+                same("read", k, lane, f, n);
+                same("torn");
+                same("rule", 4);
+                same("rule", 3);
                 break;
             }
             default: {
                 int i = near(1);
                 if (random.nextBoolean()) {
-                    same("keep(" + i + ")", x.keep(i), m.keep(i));
+                    same("keep", i);
                 } else {
-                    same("back(" + i + ")", x.back(i), m.back(i));
+                    same("back", i);
                 }
                 break;
             }

@@ -58,10 +58,10 @@ public final class RoomTest {
     private static void longRuns() throws IllegalAccessException {
         DUE.about("long runs");
         Method[] methods = FloorYears.class.getDeclaredMethods();
-        for (int seed = 0; seed < 60; seed++) {
+        for (int seed = 0; seed < 300; seed++) {
             Random random = new Random(seed);
             FloorYears x = seed % 3 == 0 ? new FloorYears() : Due.of(RICH);
-            for (int i = 0; i < 2000; i++) {
+            for (int i = RICH.length() + 1; i < 510; i++) {
                 Method m = methods[random.nextInt(methods.length)];
                 if (Modifier.isPublic(m.getModifiers()) && !(m.getName().equals("text") && i % 50 != 0)) {
                     call(x, m, arguments(m, random, random.nextInt(4) == 0));
@@ -99,14 +99,18 @@ public final class RoomTest {
             return;
         }
         long self = Thread.currentThread().getId();
-        FloorYears x = new FloorYears();
+        // Two rounds are fewer than the 512 calls that an object is used for.
+        FloorYears[] objects = new FloorYears[110];
+        for (int i = 0; i < objects.length; i++) {
+            objects[i] = new FloorYears();
+        }
         long sum = 0;
         for (int i = 0; i < 20; i++) {
-            sum += dearCalls(x) + threads.getThreadAllocatedBytes(self) % 2;
+            sum += dearCalls(objects[100 + i / 2]) + threads.getThreadAllocatedBytes(self) % 2;
         }
         long before = threads.getThreadAllocatedBytes(self);
         for (int i = 0; i < 200; i++) {
-            sum += dearCalls(x);
+            sum += dearCalls(objects[i / 2]);
         }
         long made = threads.getThreadAllocatedBytes(self) - before;
         // Some bytes are the measuring's own; an object in each round would be thousands.
