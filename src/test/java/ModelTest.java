@@ -17,18 +17,24 @@ public final class ModelTest {
     private static final Map<String, Method> OF_PROGRAM = methods(FloorYears.class);
     private static final Map<String, Method> OF_MODEL = methods(Model.class);
 
+    /** How many numbers step() draws of. */
+    private static final int STEPS = 13;
+
     private final Due due = new Due();
     private final int seed;
     private final Random random;
     private final FloorYears x = new FloorYears();
     private final Model m = new Model();
     private final int[] lanes = new int[4];
+    /** The step that this run takes more than others, so that what it changes piles up. */
+    private final int dear;
     private int calls;
     private int things;
 
     private ModelTest(int seed) {
         this.seed = seed;
         random = new Random(seed);
+        dear = random.nextInt(STEPS);
     }
 
     public static void main(String[] args) {
@@ -103,6 +109,9 @@ public final class ModelTest {
 
     private void tell() {
         String t = aText();
+        if (m.count(2) > 0 && random.nextInt(10) != 0) {
+            same("end", 0);
+        }
         for (int i = 0; i < t.length(); i++) {
             int c = t.charAt(i);
             same("feed", c);
@@ -117,6 +126,12 @@ public final class ModelTest {
         lookAround(4);
     }
 
+    /** The number of a thing in a text: now and then one that is not there, or out of bounds, or in two figures. */
+    private String named(int f) {
+        int then = random.nextInt(60) == 0 ? upTo(7) : f;
+        return (random.nextInt(15) == 0 ? "0" : "") + then;
+    }
+
     private String gap() {
         return " ".repeat(random.nextInt(8) == 0 ? upTo(2) : 1);
     }
@@ -129,23 +144,23 @@ public final class ModelTest {
             int kind = upTo(4);
             b.append(KINDS[kind]);
             for (int j = 0; j < new int[] {0, 1, 1, 2, 2}[kind]; j++) {
-                b.append(gap()).append(upTo(most));
+                b.append(gap()).append(named(upTo(most)));
             }
             b.append(random.nextInt(9) == 0 ? " ; " : ";");
         }
         for (int f = 0; f < many; f++) {
             if (random.nextInt(3) == 0) {
-                b.append("so").append(gap()).append(random.nextInt(40) == 0 ? upTo(most) : f).append(';');
+                b.append("so").append(gap()).append(named(f)).append(';');
             }
         }
         for (int i = upTo(random.nextInt(15) == 0 ? 6 : 4); i > 0 && many > 0; i--) {
-            b.append("guest").append(gap()).append(upTo(most)).append(' ')
+            b.append("guest").append(gap()).append(named(upTo(most))).append(' ')
                 .append(random.nextInt(30) == 0 ? 10 : upTo(9)).append(';');
         }
         for (int i = upTo(random.nextInt(15) == 0 ? 6 : 4); i > 0 && many > 1; i--) {
             int f = upTo(most);
             int g = random.nextInt(30) == 0 ? f : (f + 1 + upTo(most - 1)) % (most + 1);
-            b.append("ban ").append(f).append(' ').append(g).append(';');
+            b.append("ban ").append(named(f)).append(' ').append(named(g)).append(';');
         }
         return random.nextInt(4) == 0 ? spoil(b) : b.toString();
     }
@@ -189,7 +204,7 @@ public final class ModelTest {
     }
 
     private void step() {
-        switch (random.nextInt(12)) {
+        switch (random.nextBoolean() ? dear : random.nextInt(STEPS)) {
             case 0, 1, 2:
                 changeOne();
                 break;
@@ -205,6 +220,9 @@ public final class ModelTest {
             case 9, 10:
                 sheetOne();
                 break;
+            case 11:
+                tapeOne();
+                break;
             default:
                 if (random.nextInt(20) == 0) {
                     tell();
@@ -212,6 +230,14 @@ public final class ModelTest {
                     lookAround(20);
                 }
                 break;
+        }
+    }
+
+    private void tapeOne() {
+        if (random.nextInt(3) == 0) {
+            same("end", near(m.count(2)));
+        } else {
+            same("feed", random.nextInt(4) == 0 ? random.nextInt(132) - 2 : near(127));
         }
     }
 
@@ -323,6 +349,10 @@ public final class ModelTest {
         }
     }
 
+    private boolean willBeSo(int f, int n) {
+        return f >= 0 && f < things && (m.ahead(n) >> f & 1) == 1;
+    }
+
     private void seenOne() {
         int w = near(3);
         int b = near(1);
@@ -330,7 +360,8 @@ public final class ModelTest {
             case 0, 1: {
                 int f = aThing();
                 int n = near(9);
-                boolean is = random.nextBoolean();
+                // Mostly what will be so from the state now, that some state is left to fit.
+                boolean is = random.nextInt(6) == 0 ? random.nextBoolean() : willBeSo(f, n);
                 same("see", f, n, is);
                 break;
             }
@@ -355,24 +386,25 @@ public final class ModelTest {
     }
 
     private void sheetOne() {
-        int k = near(random.nextInt(3) == 0 ? 3 : 1);
-        int lane = random.nextBoolean() && k >= 0 && k < 4 ? lanes[k] : near(2);
+        int k = near(random.nextInt(3) == 0 ? 3 : 0);
+        int lane = random.nextInt(4) != 0 && k >= 0 && k < 4 ? lanes[k] : near(2);
         switch (random.nextInt(7)) {
             case 0: {
-                int n = near(40);
-                if (same("sheet", k, lane, n) == 1) {
-                    lanes[k] = lane;
+                int n = near(random.nextInt(4) == 0 ? 40 : 6);
+                int ofLane = near(2);
+                if (same("sheet", k, ofLane, n) == 1) {
+                    lanes[k] = ofLane;
                 }
                 break;
             }
             case 1, 2, 3: {
-                int i = near(8);
-                int v = random.nextInt(4) == 0 ? random.nextInt() & ~252 : near(3);
+                int i = near(4);
+                int v = near(3) + (random.nextInt(4) == 0 ? (random.nextInt(5) - 2) << 8 * upTo(3) : 0);
                 same("lay", k, i, v);
                 break;
             }
             case 4, 5: {
-                int f = near(6);
+                int f = near(4);
                 int n = near(random.nextBoolean() ? 3 : 20);
                 same("read", k, lane, f, n);
                 same("torn");
